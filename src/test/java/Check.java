@@ -1,0 +1,66 @@
+/** Counts and prints the answers that are not as due, for all tests of the project. */
+final class Check {
+    /** A call that may throw. */
+    interface Call {
+        void run();
+    }
+
+    private static int wrong = 0;
+
+    private Check() {
+    }
+
+    static void due(String what, long got, long want) {
+        if (got != want) {
+            wrong++;
+            System.out.println(what + " answered " + got + ", due is " + want);
+        }
+    }
+
+    static void badIndex(String what, Call call) {
+        throwsExactly(what, IndexOutOfBoundsException.class, call);
+    }
+
+    static void badArgument(String what, Call call) {
+        throwsExactly(what, IllegalArgumentException.class, call);
+    }
+
+    private static void throwsExactly(String what, Class<?> want, Call call) {
+        Class<?> got = null;
+        try {
+            call.run();
+        } catch (RuntimeException e) {
+            got = e.getClass();
+        }
+        if (got != want) {
+            wrong++;
+            System.out.println(what + " threw " + got + ", due is " + want);
+        }
+    }
+
+    /** All that the face tells of an object, to see that a call changed nothing. */
+    static String state(ShadowMath x) {
+        StringBuilder all = new StringBuilder();
+        for (int r = 0; r < 16; r++) {
+            all.append(x.value(r)).append('/').append(x.not(r)).append(' ');
+        }
+        for (int at = 0; at < 256; at++) {
+            all.append(x.octet(at)).append(' ');
+        }
+        return all.append(x.count()).toString();
+    }
+
+    static void sameState(String what, ShadowMath x, String before) {
+        if (!state(x).equals(before)) {
+            wrong++;
+            System.out.println(what + " changed the object");
+        }
+    }
+
+    static void end() {
+        System.out.println(wrong == 0 ? "all answers are as due" : wrong + " answers are not as due");
+        if (wrong != 0) {
+            System.exit(1);
+        }
+    }
+}
