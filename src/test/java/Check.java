@@ -5,6 +5,8 @@ final class Check {
         void run();
     }
 
+    static final int STATE_CALLS = 16 + 16 + 256 + 1;
+
     private static int wrong = 0;
 
     private Check() {
@@ -38,7 +40,10 @@ final class Check {
         }
     }
 
-    /** All that the face tells of an object, to see that a call changed nothing. */
+    /**
+     * All that the face tells of an object. It takes STATE_CALLS of the 512 calls for which an
+     * object is good, so that a test asks it of one object once.
+     */
     static String state(ShadowMath x) {
         StringBuilder all = new StringBuilder();
         for (int r = 0; r < 16; r++) {
@@ -50,10 +55,11 @@ final class Check {
         return all.append(x.count()).toString();
     }
 
-    static void sameState(String what, ShadowMath x, String before) {
-        if (!state(x).equals(before)) {
+    static void dueState(String what, ShadowMath x, String want) {
+        String got = state(x);
+        if (!got.equals(want)) {
             wrong++;
-            System.out.println(what + " changed the object");
+            System.out.println("state " + what + " is " + got + ", due is " + want);
         }
     }
 

@@ -13,6 +13,7 @@ public final class MemoryTest {
         loadWithSign();
         loadWithoutSign();
         loadReplacesAll();
+        loadLeavesMemory();
         lastOctetsAreThere();
         octetTellsBothHalves();
         wrongOctetsThrow();
@@ -110,20 +111,21 @@ public final class MemoryTest {
     }
 
     private static void loads(ShadowMath x, int at, int n, boolean sign, int value, int not) {
-        String before = memory(x);
         x.load(7, at, n, sign);
         String what = " after load " + at + " " + n + " " + sign;
         Check.due("value" + what, x.value(7), value);
         Check.due("not" + what, x.not(7), not);
-        Check.due("memory is the same" + what, memory(x).equals(before) ? 1 : 0, 1);
     }
 
-    private static String memory(ShadowMath x) {
-        StringBuilder all = new StringBuilder();
-        for (int at = 0; at < 256; at++) {
-            all.append(x.octet(at)).append(' ');
+    private static void loadLeavesMemory() {
+        ShadowMath x = allSet();
+        ShadowMath y = allSet();
+        for (int n : SIZES) {
+            x.load(7, 252, n, true);
+            x.load(7, 20, n, false);
         }
-        return all.toString();
+        y.set(7, x.value(7), x.not(7));
+        Check.dueState("after loads", x, Check.state(y));
     }
 
     private static void lastOctetsAreThere() {
@@ -157,15 +159,7 @@ public final class MemoryTest {
     }
 
     private static void wrongTransfersThrowAndChangeNothing() {
-        ShadowMath x = new ShadowMath();
-        for (int r = 0; r < 16; r++) {
-            x.set(r, 0x01020304 * r, r);
-        }
-        for (int at = 0; at < 256; at += 4) {
-            x.store(at / 16, at, 4);
-        }
-        x.set(15, -7, -1);
-        String before = Check.state(x);
+        ShadowMath x = allSet();
         for (int n : NO_SIZES) {
             Check.badArgument("store of " + n, () -> x.store(15, 0, n));
             Check.badArgument("load of " + n, () -> x.load(15, 0, n, true));
@@ -180,7 +174,19 @@ public final class MemoryTest {
                 Check.badIndex("load of register " + r, () -> x.load(r, 0, n, true));
             }
         }
-        Check.sameState("a wrong transfer", x, before);
+        Check.dueState("after wrong transfers", x, Check.state(allSet()));
+    }
+
+    private static ShadowMath allSet() {
+        ShadowMath x = new ShadowMath();
+        for (int r = 0; r < 16; r++) {
+            x.set(r, 0x01020304 * r, r);
+        }
+        for (int at = 0; at < 256; at += 4) {
+            x.store(at / 16, at, 4);
+        }
+        x.set(15, -7, -1);
+        return x;
     }
 
     private static void firstNamedIsThrown() {

@@ -5,8 +5,11 @@ import java.util.Random;
  * holds every bit by itself as one of 0, 1, not GIVEN as 0, not GIVEN as 1.
  */
 public final class ModelTest {
-    private static final int RUNS = 400;
-    private static final int CALLS = 512;
+    private static final int RUNS = 1000;
+    private static final int MOST_CALLS_A_STEP = 6;
+
+    /** An object is good for 512 calls, of which the last look at its state takes a part. */
+    private static final int CALLS = 512 - Check.STATE_CALLS - MOST_CALLS_A_STEP;
 
     public static void main(String[] args) {
         for (int run = 0; run < RUNS; run++) {
@@ -213,20 +216,27 @@ public final class ModelTest {
         }
 
         void go() {
-            for (int call = 0; call < CALLS; call++) {
-                switch (random.nextInt(9)) {
-                    case 0:
-                    case 1: set(); break;
-                    case 2: store(); break;
-                    case 3: load(); break;
-                    case 4:
-                    case 5:
-                    case 6: op(); break;
-                    default: ask(); break;
-                }
+            int calls = 0;
+            while (calls < CALLS) {
+                calls += step();
             }
-            String want = state();
-            Check.sameState("run " + run + " differs from the model: it", x, want);
+            Check.dueState("at the end of run " + run, x, state());
+        }
+
+        /** Answers how many calls it made. */
+        private int step() {
+            switch (random.nextInt(16)) {
+                case 0:
+                case 1:
+                case 2:
+                case 3: return set();
+                case 4:
+                case 5: return store();
+                case 6:
+                case 7: return load();
+                case 8: return ask();
+                default: return op();
+            }
         }
 
         private int place(int bound) {
@@ -252,7 +262,7 @@ public final class ModelTest {
             return r >= 0 && r < 16;
         }
 
-        private void set() {
+        private int set() {
             int r = place(16);
             int v = word();
             int not = random.nextBoolean() ? word() : word() & word() & word();
@@ -262,9 +272,10 @@ public final class ModelTest {
             } else {
                 Check.badIndex("set " + r, () -> x.set(r, v, not));
             }
+            return 1;
         }
 
-        private void op() {
+        private int op() {
             int op = random.nextInt(40) == 0 ? random.nextInt(40) - 13 : random.nextInt(13);
             int d = place(16);
             int a = place(16);
@@ -279,6 +290,7 @@ public final class ModelTest {
                 Check.due("run " + run + " value of op " + op, x.value(d), registers[d].value());
                 Check.due("run " + run + " not of op " + op, x.not(d), registers[d].not());
             }
+            return 3;
         }
 
         /** Whether a transfer is due to happen; if not, that the call throws what is due. */
@@ -295,7 +307,7 @@ public final class ModelTest {
             return true;
         }
 
-        private void store() {
+        private int store() {
             int r = place(16);
             int at = place(256);
             int n = size();
@@ -304,9 +316,10 @@ public final class ModelTest {
                     octets[at + i / 8].take(i % 8, registers[r], i);
                 }
             }
+            return 1;
         }
 
-        private void load() {
+        private int load() {
             int r = place(16);
             int at = place(256);
             int n = size();
@@ -322,9 +335,10 @@ public final class ModelTest {
                 }
                 registers[r] = come;
             }
+            return 1;
         }
 
-        private void ask() {
+        private int ask() {
             int r = random.nextInt(16);
             int at = random.nextInt(256);
             String what = "run " + run + " ";
@@ -334,6 +348,7 @@ public final class ModelTest {
             Check.due(what + "greatest", x.greatest(r), registers[r].end(true, true));
             Check.due(what + "octet", x.octet(at), octets[at].value() + 256 * octets[at].not());
             Check.due(what + "count", x.count(), count());
+            return MOST_CALLS_A_STEP;
         }
 
         private int count() {

@@ -250,10 +250,7 @@ public final class OpTest {
     }
 
     private static void wrongInputsThrowAndChangeNothing() {
-        ShadowMath x = new ShadowMath();
-        x.set(0, 3, 1);
-        x.set(15, 9, 4);
-        String before = Check.state(x);
+        ShadowMath x = twoSet();
         for (int op : new int[] {-1, 13, 14, 256, MIN, MAX}) {
             Check.badArgument("op " + op, () -> x.op(op, 0, 0, 0));
             Check.badArgument("op " + op + " on none", () -> x.op(op, 16, -1, 99));
@@ -266,6 +263,13 @@ public final class OpTest {
                 Check.badIndex("op of b " + r, () -> x.op(known, 0, 15, r));
             }
         }
-        Check.sameState("a wrong op", x, before);
+        Check.dueState("after wrong ops", x, Check.state(twoSet()));
+    }
+
+    private static ShadowMath twoSet() {
+        ShadowMath x = new ShadowMath();
+        x.set(0, 3, 1);
+        x.set(15, 9, 4);
+        return x;
     }
 }

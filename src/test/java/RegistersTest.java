@@ -106,10 +106,7 @@ public final class RegistersTest {
     }
 
     private static void wrongRegistersThrowAndChangeNothing() {
-        ShadowMath x = new ShadowMath();
-        x.set(0, 11, 1);
-        x.set(15, 12, 2);
-        String before = Check.state(x);
+        ShadowMath x = twoSet();
         for (int r : NO_REGISTERS) {
             Check.badIndex("set " + r, () -> x.set(r, 1, 1));
             Check.badIndex("value " + r, () -> x.value(r));
@@ -117,7 +114,14 @@ public final class RegistersTest {
             Check.badIndex("least " + r, () -> x.least(r));
             Check.badIndex("greatest " + r, () -> x.greatest(r));
         }
-        Check.sameState("a call on no register", x, before);
+        Check.dueState("after calls on no register", x, Check.state(twoSet()));
+    }
+
+    private static ShadowMath twoSet() {
+        ShadowMath x = new ShadowMath();
+        x.set(0, 11, 1);
+        x.set(15, 12, 2);
+        return x;
     }
 
     private static void objectsAreApart() {
