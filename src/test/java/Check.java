@@ -27,6 +27,10 @@ final class Check {
         throwsExactly(what, IllegalArgumentException.class, call);
     }
 
+    static void nothing(String what, Call call) {
+        throwsExactly(what, null, call);
+    }
+
     private static void throwsExactly(String what, Class<?> want, Call call) {
         Class<?> got = null;
         try {
