@@ -402,7 +402,8 @@ public final class StateBoundaryTest {
         int[][] halves = {{0, 0, 0}, {255, 0, 255}, {0, 255, 65280}, {255, 255, 65535}, {128, 1, 384}, {1, 128, 32769}};
         for (int[] half : halves) {
             for (int at : new int[] {0, 127, 128, 255}) {
-                Check.due("octet " + at + " of " + half[0] + "/" + half[1], with(at, 1, half[0], half[1]).octet(at), half[2]);
+                ShadowMath x = with(at, 1, half[0], half[1]);
+                Check.due("octet " + at + " of " + half[0] + "/" + half[1], x.octet(at), half[2]);
             }
         }
         // What lies above the lowest octet stays out of it.
