@@ -6,6 +6,7 @@ final class Check {
     }
 
     static final int STATE_CALLS = 16 + 16 + 256 + 1;
+    static final int FULL_CALLS = 2 * 64 + 16;
 
     private static int wrong = 0;
 
@@ -42,6 +43,20 @@ final class Check {
             wrong++;
             System.out.println(what + " threw " + got + ", due is " + want);
         }
+    }
+
+    /** An object on which hardly a change would go unseen: no register and no octet is as another. */
+    static ShadowMath full() {
+        ShadowMath x = new ShadowMath();
+        for (int at = 0; at < 256; at += 4) {
+            int octets = 0x01010101 * at + 0x03020100;
+            x.set(0, octets, ~octets);
+            x.store(0, at, 4);
+        }
+        for (int r = 0; r < 16; r++) {
+            x.set(r, 0x87654321 + r, 0x10F00F00 + 2 * r);
+        }
+        return x;
     }
 
     /**

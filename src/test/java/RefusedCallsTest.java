@@ -15,7 +15,7 @@ public final class RefusedCallsTest {
     private static final int[] NO_SIZES = {MIN, -4, -2, -1, 0, 3, 5, 6, 7, 8, 16, 32, 257, 258, 260, MAX};
     private static final int[] SIZES = {1, 2, 4};
 
-    private static final String UNCHANGED = Check.state(full());
+    private static final String UNCHANGED = Check.state(Check.full());
 
     /** A call on an object. */
     private interface Deed {
@@ -47,34 +47,20 @@ public final class RefusedCallsTest {
         Check.end();
     }
 
-    /** An object on which hardly a change would go unseen: no register and no octet is as another. */
-    private static ShadowMath full() {
-        ShadowMath x = new ShadowMath();
-        for (int at = 0; at < 256; at += 4) {
-            int octets = 0x01010101 * at + 0x03020100;
-            x.set(0, octets, ~octets);
-            x.store(0, at, 4);
-        }
-        for (int r = 0; r < 16; r++) {
-            x.set(r, 0x87654321 + r, 0x10F00F00 + 2 * r);
-        }
-        return x;
-    }
-
     private static void index(String what, Deed deed) {
-        ShadowMath x = full();
+        ShadowMath x = Check.full();
         Check.badIndex(what, () -> deed.on(x));
         Check.dueState("after " + what, x, UNCHANGED);
     }
 
     private static void argument(String what, Deed deed) {
-        ShadowMath x = full();
+        ShadowMath x = Check.full();
         Check.badArgument(what, () -> deed.on(x));
         Check.dueState("after " + what, x, UNCHANGED);
     }
 
     private static void allowed(String what, Deed deed) {
-        ShadowMath x = full();
+        ShadowMath x = Check.full();
         Check.nothing(what, () -> deed.on(x));
     }
 
@@ -94,8 +80,8 @@ public final class RefusedCallsTest {
         for (int r : NO_REGISTERS) {
             index("value of " + r, x -> x.value(r));
         }
-        Check.due("value of 0", full().value(0), 0x87654321);
-        Check.due("value of 15", full().value(15), 0x87654330);
+        Check.due("value of 0", Check.full().value(0), 0x87654321);
+        Check.due("value of 15", Check.full().value(15), 0x87654330);
     }
 
     // Promise 7, "here and below" of promise 6.
@@ -103,8 +89,8 @@ public final class RefusedCallsTest {
         for (int r : NO_REGISTERS) {
             index("not of " + r, x -> x.not(r));
         }
-        Check.due("not of 0", full().not(0), 0x10F00F00);
-        Check.due("not of 15", full().not(15), 0x10F00F1E);
+        Check.due("not of 0", Check.full().not(0), 0x10F00F00);
+        Check.due("not of 15", Check.full().not(15), 0x10F00F1E);
     }
 
     // Promise 8, "here and below" of promise 6.
@@ -112,8 +98,8 @@ public final class RefusedCallsTest {
         for (int r : NO_REGISTERS) {
             index("least of " + r, x -> x.least(r));
         }
-        Check.due("least of 0", full().least(0), 0x87054021);
-        Check.due("least of 15", full().least(15), 0x87054020);
+        Check.due("least of 0", Check.full().least(0), 0x87054021);
+        Check.due("least of 15", Check.full().least(15), 0x87054020);
     }
 
     // Promise 9, "here and below" of promise 6.
@@ -121,8 +107,8 @@ public final class RefusedCallsTest {
         for (int r : NO_REGISTERS) {
             index("greatest of " + r, x -> x.greatest(r));
         }
-        Check.due("greatest of 0", full().greatest(0), 0x97F54F21);
-        Check.due("greatest of 15", full().greatest(15), 0x97F54F3E);
+        Check.due("greatest of 0", Check.full().greatest(0), 0x97F54F21);
+        Check.due("greatest of 15", Check.full().greatest(15), 0x97F54F3E);
     }
 
     // Promise 10: "IndexOutOfBoundsException: there is none."
@@ -130,8 +116,8 @@ public final class RefusedCallsTest {
         for (int at : NO_OCTETS) {
             index("octet " + at, x -> x.octet(at));
         }
-        Check.due("octet 0", full().octet(0), 0xFF00);
-        Check.due("octet 255", full().octet(255), 0x00FF);
+        Check.due("octet 0", Check.full().octet(0), 0xFF00);
+        Check.due("octet 255", Check.full().octet(255), 0x00FF);
     }
 
     // Promise 3: "IllegalArgumentException: op is not 0..12."
@@ -304,7 +290,7 @@ public final class RefusedCallsTest {
 
     // Promise 1: "a call that throws changes nothing", not even how the next ones are answered.
     private static void refusedCallsInARowChangeNothing() {
-        ShadowMath x = full();
+        ShadowMath x = Check.full();
         for (int i = 0; i < 4; i++) {
             Check.badIndex("set in a row", () -> x.set(16, 1, 1));
             Check.badArgument("op in a row", () -> x.op(13, 0, 1, 2));
